@@ -1,5 +1,3 @@
-import java.util.Arrays;
-
 /**
  * An infusion pump of three channels. What it promises stands in DOC.md.
  *
@@ -220,11 +218,11 @@ public final class DosePump {
             case 9:
                 return ch.line.bubble;
             case 10:
-                return ch.line.airStrokes.sum;
+                return ch.line.airStrokes.count;
             case 11:
                 return ch.waits ? 1 : 0;
             case 12:
-                return ch.boluses.inHour(time);
+                return ch.boluses.begun.count;
             case 13:
                 return ch.program.drug.number;
             case 14:
@@ -562,7 +560,7 @@ public final class DosePump {
     }
 
     private int passChannel(Channel ch) {
-        ch.beginTick();
+        ch.beginTick(time);
         int made = ch.phase == PHASE_RUNS ? deliver(ch) : 0;
         if (ch.line.drainAndTestBlocked()) {
             latch(ch, ALARM_OCCLUDED);
@@ -593,7 +591,7 @@ public final class DosePump {
     private void makeStroke(Channel ch) {
         ch.hour.add();
         ch.strokes++;
-        ch.line.carryStroke();
+        ch.line.carryStroke(time);
         boolean last = ch.program.countStroke();
         if (ch.line.hasTooMuchAir()) {
             latch(ch, ALARM_AIR);
@@ -680,7 +678,7 @@ public final class DosePump {
         final Program program = new Program();
         final Boluses boluses = new Boluses();
         final Line line = new Line();
-        final Window hour = new Window(HOUR);
+        final HourOfStrokes hour = new HourOfStrokes();
         int phase = PHASE_IDLE;
         int alarms;
         int strokes;
@@ -729,9 +727,10 @@ public final class DosePump {
             boluses.left = 0;
         }
 
-        void beginTick() {
+        void beginTick(int now) {
             hour.advance();
-            line.airStrokes.advance();
+            line.airStrokes.forgetOld(now);
+            boluses.begun.forgetOld(now);
             doneNow = false;
         }
     }
@@ -844,38 +843,18 @@ public final class DosePump {
     }
 
     private static final class Boluses {
-        /** No drug lets in more of them in an hour, so one that is overwritten is older than that. */
-        static final int KEPT = 20;
-
-        final int[] begun = new int[KEPT];
-        int next;
+        /** 20 is the most that a drug lets in in an hour. */
+        final Recent begun = new Recent(HOUR, 20);
+        /** So long ago that it locks nothing out, if there was none. */
         int latest = -HOUR;
         int left;
 
-        Boluses() {
-            // Before an hour ago: those that never were count nowhere and lock nothing out.
-            for (int i = 0; i < KEPT; i++) {
-                begun[i] = -HOUR;
-            }
-        }
-
-        int inHour(int now) {
-            int many = 0;
-            for (int i = 0; i < KEPT; i++) {
-                if (now - begun[i] < HOUR) {
-                    many++;
-                }
-            }
-            return many;
-        }
-
         boolean mayBegin(Drug drug, int now) {
-            return drug.bolus > 0 && left == 0 && now - latest >= drug.lockout && inHour(now) < drug.many;
+            return drug.bolus > 0 && left == 0 && now - latest >= drug.lockout && begun.count < drug.many;
         }
 
         void begin(Drug drug, int now) {
-            begun[next] = now;
-            next = next + 1 < KEPT ? next + 1 : 0;
+            begun.add(now);
             latest = now;
             left = drug.bolus;
         }
@@ -884,8 +863,11 @@ public final class DosePump {
     private static final class Line {
         static final int TIGHT = 100;
         static final int TIGHT_TICKS = 3;
+        static final int MAX_BUBBLE = 5;
+        static final int MAX_AIR_STROKES = 60;
 
-        final Window airStrokes = new Window(900);
+        /** With so many of them alarm 0 comes, and none is made before ACK has forgotten them. */
+        final Recent airStrokes = new Recent(900, MAX_AIR_STROKES);
         int flow = 200;
         int pressure;
         int tightTicks;
@@ -893,18 +875,18 @@ public final class DosePump {
         boolean air;
         boolean open;
 
-        void carryStroke() {
+        void carryStroke(int now) {
             pressure += 6;
             if (air) {
                 bubble++;
-                airStrokes.add();
+                airStrokes.add(now);
             } else {
                 bubble = 0;
             }
         }
 
         boolean hasTooMuchAir() {
-            return bubble >= 5 || airStrokes.sum >= 60;
+            return bubble >= MAX_BUBBLE || airStrokes.count >= MAX_AIR_STROKES;
         }
 
         void forgetAir() {
@@ -924,18 +906,14 @@ public final class DosePump {
         }
     }
 
-    /** How often something happened in each of the latest ticks, and in all of them. */
-    private static final class Window {
-        final int[] counts;
+    /** The strokes of each of the latest 3600 ticks, and of all of them. */
+    private static final class HourOfStrokes {
+        final int[] counts = new int[HOUR];
         int at;
         int sum;
 
-        Window(int length) {
-            counts = new int[Math.max(1, length)];
-        }
-
         void advance() {
-            at = at + 1 < counts.length ? at + 1 : 0;
+            at = at + 1 < HOUR ? at + 1 : 0;
             sum -= counts[at];
             counts[at] = 0;
         }
@@ -944,10 +922,37 @@ public final class DosePump {
             counts[at]++;
             sum++;
         }
+    }
+
+    /** The times of what happened in the latest ticks: of things that cannot happen there more often than it keeps. */
+    private static final class Recent {
+        final int span;
+        final int[] times;
+        int oldest;
+        int count;
+
+        Recent(int span, int most) {
+            this.span = span;
+            this.times = new int[Math.max(1, most)];
+        }
+
+        void forgetOld(int now) {
+            for (int i = 0; i < times.length && count > 0 && now - times[oldest] >= span; i++) {
+                oldest = oldest + 1 < times.length ? oldest + 1 : 0;
+                count--;
+            }
+        }
+
+        void add(int now) {
+            if (count < times.length) {
+                int at = oldest + count;
+                times[at < times.length ? at : at - times.length] = now;
+                count++;
+            }
+        }
 
         void clear() {
-            Arrays.fill(counts, 0);
-            sum = 0;
+            count = 0;
         }
     }
 

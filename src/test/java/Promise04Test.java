@@ -196,6 +196,14 @@ public final class Promise04Test {
         pump.door(0, false);
         Due.is("no RUN with alarm 2", Keys.press(pump, "R"), -1);
         Due.same("ACK, RUN", Keys.answers(pump, "AR"), "8 7");
+        DosePump air = Keys.running("36", "0");
+        air.air(0, true);
+        air.ticks(5);
+        air.air(0, false);
+        Due.same("no RUN with alarm 0", Keys.answers(air, "RAR"), "-1 8 7");
+        air.flow(0, 0);
+        air.ticks(60);
+        Due.same("no RUN with alarm 1", Keys.answers(air, "RAR"), "-1 8 7");
         DosePump done = Keys.running("36", "0.1");
         done.ticks(10);
         Due.same("alarm 5 does not hinder", Keys.answers(done, "SR"), "8 7");
@@ -266,6 +274,15 @@ public final class Promise04Test {
         }
         Due.is("the twenty-first", Keys.press(many, "P"), -1);
         Due.is("twenty in the hour", many.channel(0, 12), 20);
+        Keys.ticks(many, 3600 - 20);
+        for (int hour = 0; hour < 3; hour++) {
+            for (int i = 0; i < 30; i++) {
+                Due.is("one for one that is an hour old", Keys.press(many, "P"), i < 20 ? 7 : -1);
+                Due.is("again twenty", many.channel(0, 12), 20);
+                many.ticks(1);
+            }
+            Keys.ticks(many, 3600 - 30);
+        }
     }
 
     private static void silences() {

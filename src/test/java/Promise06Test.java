@@ -5,6 +5,7 @@ public final class Promise06Test {
         pressure();
         edgeOfAHundred();
         inARow();
+        anew();
         Due.end();
     }
 
@@ -72,5 +73,17 @@ public final class Promise06Test {
         Due.is("two more are not in a row", pump.channel(0, 1), 0);
         pump.ticks(1);
         Due.is("three are", pump.channel(0, 1), 2);
+    }
+
+    private static void anew() {
+        DosePump pump = Keys.running("999.9", "0");
+        pump.flow(0, 0);
+        pump.ticks(3);
+        Due.is("three ticks", pump.channel(0, 1), 2);
+        Keys.press(pump, "AR");
+        pump.ticks(2);
+        Due.is("two more", pump.channel(0, 1), 0);
+        pump.ticks(1);
+        Due.is("three more", pump.channel(0, 1), 2);
     }
 }

@@ -43,6 +43,10 @@ public final class Promise07Test {
         pump.ticks(1);
         Due.is("a stroke without air", pump.channel(0, 9), 0);
         Due.is("strokes with air stay", pump.channel(0, 10), 3);
+        Keys.ticks(pump, 895);
+        Due.is("nothing that was forgotten goes twice", pump.channel(0, 10), 3);
+        Keys.ticks(pump, 10);
+        Due.is("none behind 900 ticks", pump.channel(0, 10), 0);
     }
 
     private static int fourInFive(DosePump pump, int times) {

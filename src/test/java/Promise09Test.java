@@ -5,6 +5,7 @@ public final class Promise09Test {
         charge();
         low();
         empty();
+        emptyOfChannel0();
         Due.end();
     }
 
@@ -55,7 +56,10 @@ public final class Promise09Test {
         pump.ticks(1);
         pump.mains(false);
         Due.is("3603 without mains", pump.about(1), 3603);
-        Due.is("ACK", Keys.press(pump, "A"), 0);
+        pump.ticks(3);
+        Due.is("ACK at 3600", Keys.press(pump, "A"), 0);
+        pump.ticks(1);
+        Due.is("no ACK at 3599", Keys.press(pump, "A"), -1);
     }
 
     private static void empty() {
@@ -81,7 +85,28 @@ public final class Promise09Test {
         pump.ticks(49);
         Due.is("no ACK at 196", Keys.press(pump, "A"), -1);
         pump.ticks(1);
+        pump.mains(false);
+        pump.ticks(1);
+        Due.is("no ACK at 199", Keys.press(pump, "A"), -1);
+        pump.mains(true);
+        pump.ticks(1);
+        pump.mains(false);
+        pump.ticks(3);
+        Due.is("no RUN with alarm 3", Keys.press(pump, "R"), -1);
         Due.is("ACK at 200", Keys.press(pump, "A"), 8);
         Due.is("RUN", Keys.press(pump, "R"), 7);
+    }
+
+    private static void emptyOfChannel0() {
+        DosePump pump = Keys.pump();
+        Keys.press(pump, "B0E0.1E0E");
+        pump.mains(false);
+        Keys.ticks(pump, 36000);
+        Due.is("none", pump.about(1), 0);
+        Due.is("EMPTY is of channels that RUN", pump.channel(0, 1), 64);
+        Due.is("RUN", Keys.press(pump, "R"), 7);
+        pump.ticks(1);
+        Due.is("LOW and EMPTY", pump.channel(0, 1), 64 + 8);
+        Due.is("HOLDS", pump.channel(0, 0), 8);
     }
 }

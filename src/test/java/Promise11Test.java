@@ -35,7 +35,22 @@ public final class Promise11Test {
         pump.ticks(1);
         answers(pump, "at 3602", 8, 4, 360, -1, 4, 0, 0, 4, 0, 0, 0, 0, 1, 0, 13);
         Due.is("of another", pump.channel(1, 14), 0);
+        hours();
         Due.end();
+    }
+
+    private static void hours() {
+        DosePump pump = Keys.running("36", "0");
+        for (int hour = 1; hour <= 4; hour++) {
+            Keys.ticks(pump, 3600);
+            Due.is("strokes of the latest 3600 ticks", pump.channel(0, 7), 3600);
+            Due.is("strokes in all", pump.channel(0, 14), 3600 * hour);
+        }
+        Keys.press(pump, "S");
+        Keys.ticks(pump, 3599);
+        Due.is("the latest one", pump.channel(0, 7), 1);
+        pump.ticks(1);
+        Due.is("none", pump.channel(0, 7), 0);
     }
 
     private static void answers(DosePump pump, String when, int... due) {
