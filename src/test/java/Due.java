@@ -1,14 +1,24 @@
 /** Counts the answers of a test that are not as due. */
 final class Due {
     private static int wrong = 0;
+    private static String sentence = "";
 
     private Due() {
     }
 
+    /** The document's words that the following answers are asked by. */
+    static void sentence(String words) {
+        sentence = words;
+    }
+
+    private static void tell(String fault) {
+        wrong++;
+        System.out.println((sentence.isEmpty() ? "" : "'" + sentence + "': ") + fault);
+    }
+
     static void is(String call, long got, long want) {
         if (got != want) {
-            wrong++;
-            System.out.println(call + " answered " + got + ", due is " + want);
+            tell(call + " answered " + got + ", due is " + want);
         }
     }
 
@@ -18,8 +28,7 @@ final class Due {
 
     static void same(String call, String got, String want) {
         if (!got.equals(want)) {
-            wrong++;
-            System.out.println(call + " answered " + got + ", due is " + want);
+            tell(call + " answered " + got + ", due is " + want);
         }
     }
 
@@ -32,8 +41,7 @@ final class Due {
             got = e.getClass();
         }
         if (got != want) {
-            wrong++;
-            System.out.println(call + " threw " + got + ", due is " + want);
+            tell(call + " threw " + got + ", due is " + want);
         }
     }
 

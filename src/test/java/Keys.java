@@ -2,14 +2,22 @@
 final class Keys {
     private static final String NAMES = "0123456789.CEBRSAOPQNY";
 
+    /** Keys that bring channel 0 of pump() into each phase. */
+    static final String[] WAYS =
+        {"", "B", "B1E", "B0E", "B0E1E", "B1E70E0.05E", "B0E1E0E", "B0E1E0ER", "B0E1E0ERS"};
+
     private Keys() {
+    }
+
+    static int number(char name) {
+        return NAMES.indexOf(name);
     }
 
     /** What the last key answered. */
     static int press(DosePump pump, String keys) {
         int answer = 0;
         for (char name : keys.toCharArray()) {
-            answer = pump.key(NAMES.indexOf(name));
+            answer = pump.key(number(name));
         }
         return answer;
     }
@@ -18,7 +26,7 @@ final class Keys {
     static String answers(DosePump pump, String keys) {
         StringBuilder all = new StringBuilder();
         for (char name : keys.toCharArray()) {
-            all.append(all.length() == 0 ? "" : " ").append(pump.key(NAMES.indexOf(name)));
+            all.append(all.length() == 0 ? "" : " ").append(pump.key(number(name)));
         }
         return all.toString();
     }
@@ -38,6 +46,14 @@ final class Keys {
         return pump;
     }
 
+    /** Such a pump whose channel 0 is in a phase. */
+    static DosePump inPhase(int phase) {
+        DosePump pump = pump();
+        press(pump, WAYS[phase]);
+        Due.is("the way to phase " + phase, pump.channel(0, 0), phase);
+        return pump;
+    }
+
     static void ticks(DosePump pump, int n) {
         for (int left = n; left > 0; left -= 600) {
             pump.ticks(Math.min(600, left));
@@ -51,5 +67,22 @@ final class Keys {
 
     static String logged(DosePump pump, int i) {
         return pump.log(i, 0) + " " + pump.log(i, 1) + " " + pump.log(i, 2) + " " + pump.log(i, 3);
+    }
+
+    /** All that can be asked without a change. */
+    static String state(DosePump pump) {
+        StringBuilder all = new StringBuilder().append(pump.chain());
+        for (int what = 0; what < 5; what++) {
+            all.append(' ').append(pump.about(what));
+        }
+        for (int what = 0; what < 3; what++) {
+            all.append(' ').append(pump.entry(what));
+        }
+        for (int c = 0; c < 3; c++) {
+            for (int what = 0; what < 15; what++) {
+                all.append(' ').append(pump.channel(c, what));
+            }
+        }
+        return all.toString();
     }
 }

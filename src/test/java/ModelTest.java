@@ -3,13 +3,17 @@ import java.util.function.Supplier;
 
 /** Random runs of calls, each answered by the pump and by the model. */
 public final class ModelTest {
-    private static final int RUNS = 400;
+    private static final int RUNS = 3000;
+    /** Of an object; the document leaves free what later ones answer. */
     private static final int CALLS = 512;
+    private static final int CALLS_OF_THE_LAST_LOOK = 1 + 5 + 3 + 45 + 2;
+    private static final int CALLS_OF_THE_LONGEST_STEP = 35;
 
     private final Random random;
     private final DosePump pump = new DosePump();
     private final Model model = new Model();
     private final StringBuilder trace = new StringBuilder();
+    private int calls = 0;
 
     private ModelTest(long seed) {
         random = new Random(seed);
@@ -30,12 +34,28 @@ public final class ModelTest {
         if (random.nextInt(4) == 0 && !drainBattery()) {
             return false;
         }
-        for (int i = 0; i < CALLS; i++) {
-            if (!step() || !sameState()) {
+        while (calls + CALLS_OF_THE_LONGEST_STEP + CALLS_OF_THE_LAST_LOOK <= CALLS) {
+            if (!step() || !look()) {
                 return false;
             }
         }
-        return true;
+        boolean same = sameState();
+        if (calls > CALLS) {
+            trace.append("the test made ").append(calls).append(" calls");
+        }
+        return same && calls <= CALLS;
+    }
+
+    /** The chain has all that was logged; of the rest a few things at random. */
+    private boolean look() {
+        int a = random.nextInt(5);
+        int c = random.nextInt(3);
+        int w = random.nextInt(15);
+        boolean same = both("*chain()", pump::chain, model::chain)
+            && both("*channel(" + c + "," + w + ")", () -> pump.channel(c, w), () -> model.channel(c, w));
+        int e = a - 2;
+        return same && (a < 2 || both("*entry(" + e + ")", () -> pump.entry(e), () -> model.entry(e)))
+            && (a > 1 || both("*about(" + (a + 3) + ")", () -> pump.about(a + 3), () -> model.about(a + 3)));
     }
 
     /** So far that the alarms LOW and EMPTY come in what follows. */
@@ -49,6 +69,7 @@ public final class ModelTest {
     }
 
     private boolean both(String call, Supplier<Object> real, Supplier<Object> due) {
+        calls++;
         String got = answer(real);
         String want = answer(due);
         if (call.startsWith("*")) {

@@ -1,6 +1,7 @@
 /** A new object. */
 public final class Promise01Test {
     public static void main(String[] args) {
+        Due.sentence("No drugs; all channels IDLE, doors closed; TIME 0; CHARGE 36000, with mains");
         DosePump pump = new DosePump();
         int[] about = {0, 36000, 0, 0, 0};
         for (int what = 0; what < about.length; what++) {
@@ -31,6 +32,7 @@ public final class Promise01Test {
     }
 
     private static void twoObjectsAreApart() {
+        Due.sentence("A new object (and another one)");
         DosePump one = Keys.running("36", "0");
         DosePump other = new DosePump();
         one.ticks(5);

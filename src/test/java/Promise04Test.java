@@ -19,6 +19,7 @@ public final class Promise04Test {
     }
 
     private static void everyKeyInEveryPhase() {
+        Due.sentence("the phase of the channel that was chosen before it, or REFUSED, or HARD");
         String[] ways = {"", "B", "B1E", "B0E", "B0E1E", "B1E70E0.05E", "B0E1E0E", "B0E1E0ER", "B0E1E0ERS"};
         int[][] others = { // keys 10 to 21
             {-1, -1, -1, 1, -1, -1, -1, -1, -1, 0, 0, -1},
@@ -45,14 +46,23 @@ public final class Promise04Test {
     }
 
     private static void noSuchKey() {
+        Due.sentence("IllegalArgumentException when there is no such key");
         DosePump pump = new DosePump();
         for (int k : new int[] {-1, 22, Integer.MIN_VALUE, Integer.MAX_VALUE}) {
             Due.argument("key " + k, () -> pump.key(k));
         }
         Due.is("nothing changed", pump.chain(), 1);
+        Due.is("key 0", pump.key(0), -1);
+        Due.is("key 21", pump.key(21), -1);
+        Keys.press(pump, "B");
+        Due.is("key 0", pump.key(0), 1);
+        String before = Keys.state(pump);
+        Due.argument("key 22", () -> pump.key(22));
+        Due.same("nothing changed in an entry", Keys.state(pump), before);
     }
 
     private static void numbers() {
+        Due.sentence("FIGURES and POINT make a NUMBER");
         DosePump pump = Keys.pump();
         Due.same("DRUG", Keys.answers(pump, "B.1.2345"), "1 -1 1 -1 1 1 1 -1");
         Due.same("no figure behind a first 0", Keys.answers(pump, "C00.5E"), "1 1 -1 -1 -1 3");
@@ -69,6 +79,7 @@ public final class Promise04Test {
     }
 
     private static void drugsAndWeights() {
+        Due.sentence("DRUG: a drug that was told; WEIGHT: 5 .. 3000");
         DosePump pump = Keys.pump();
         pump.drug(15, 1, 1, 1, 1, 99999, 99999);
         Due.same("no such drug", Keys.answers(pump, "B2EC16EC9999EC15E"),
@@ -81,6 +92,7 @@ public final class Promise04Test {
     }
 
     private static void limits() {
+        Due.sentence("AMOUNT: HARD, VOLUME or SOFT");
         DosePump pump = new DosePump();
         pump.drug(0, 0, 1, 10, 20, 1000, 2000);
         pump.drug(1, 1, 100, 1, 2, 99999, 99999);
@@ -110,6 +122,7 @@ public final class Promise04Test {
     }
 
     private static void programs() {
+        Due.sentence("the channel is READY with a new PROGRAM");
         DosePump pump = Keys.running("54", "2.5");
         Due.is("rate", pump.channel(0, 2), 540);
         Due.is("left", pump.channel(0, 3), 250);
@@ -130,6 +143,7 @@ public final class Promise04Test {
     }
 
     private static void drops() {
+        Due.sentence("DROPPED by going back there");
         String[] keys = {"B", "B1E", "B0E", "B0E1E", "B1E70E0.05E"};
         for (int i = 0; i < keys.length; i++) {
             DosePump pump = Keys.pump();
@@ -149,6 +163,7 @@ public final class Promise04Test {
     }
 
     private static void timeouts() {
+        Due.sentence("dropped at the end of the 60th tick");
         for (String kept : new String[] {"1", "C", "0E"}) {
             DosePump pump = Keys.pump();
             Keys.press(pump, kept.equals("C") ? "B1" : "B");
@@ -185,6 +200,7 @@ public final class Promise04Test {
     }
 
     private static void runs() {
+        Due.sentence("14 RUN");
         DosePump pump = Keys.pump();
         Keys.press(pump, "B0E36E0E");
         pump.door(0, true);
@@ -210,6 +226,7 @@ public final class Promise04Test {
     }
 
     private static void stops() {
+        Due.sentence("15 STOP");
         DosePump pump = Keys.pump();
         pump.more(0, 100000, 50, 1, 0, 20);
         Keys.press(pump, "B0E36E0ERP");
@@ -224,6 +241,7 @@ public final class Promise04Test {
     }
 
     private static void boluses() {
+        Due.sentence("A BOLUS is begun by key 18 in RUNS");
         DosePump pump = Keys.pump();
         pump.more(0, 100000, 20, 4, 50, 20);
         Keys.press(pump, "B0E0.1E0ER");
@@ -249,6 +267,7 @@ public final class Promise04Test {
     }
 
     private static void bolusesInAnHour() {
+        Due.sentence("fewer than the drug lets in were begun in the 3600 ticks up to now");
         DosePump pump = Keys.pump();
         pump.more(0, 100000, 1, 1, 0, 2);
         Keys.press(pump, "B0E0.1E0ER");
@@ -286,6 +305,7 @@ public final class Promise04Test {
     }
 
     private static void silences() {
+        Due.sentence("19 SILENCE");
         DosePump pump = Keys.running("36", "0");
         pump.door(0, true);
         Due.is("sound", pump.about(3), 1);
@@ -311,6 +331,7 @@ public final class Promise04Test {
     }
 
     private static void relays() {
+        Due.sentence("21 RELAY");
         DosePump pump = Keys.pump();
         Keys.press(pump, "B0E36E0E");
         Due.is("RELAY", Keys.press(pump, "Y"), 6);

@@ -16,17 +16,25 @@ public final class Promise05Test {
     }
 
     private static void wrongOnes() {
+        Due.sentence("So many ticks (0 .. 600): how many strokes were made by all channels");
         DosePump pump = Keys.running("36", "0");
         Due.argument("ticks(-1)", () -> pump.ticks(-1));
         Due.argument("ticks(601)", () -> pump.ticks(601));
         Due.argument("ticks(min)", () -> pump.ticks(Integer.MIN_VALUE));
         Due.is("no time went by", pump.about(0), 0);
         Due.is("ticks(0)", pump.ticks(0), 0);
+        Due.is("no time went by", pump.about(0), 0);
+        Due.is("ticks(1)", pump.ticks(1), 1);
+        Due.is("time", pump.about(0), 1);
+        Due.is("ticks(599)", pump.ticks(599), 599);
         Due.is("ticks(600)", pump.ticks(600), 600);
-        Due.is("time", pump.about(0), 600);
+        Due.is("time", pump.about(0), 1200);
+        Due.argument("ticks(max)", () -> pump.ticks(Integer.MAX_VALUE));
+        Due.is("time", pump.about(0), 1200);
     }
 
     private static void debts() {
+        Due.sentence("DEBT keeps the rest");
         DosePump pump = Keys.running("999.9", "0");
         Due.is("27 of 9999", pump.ticks(1), 27);
         Due.is("the rest", pump.channel(0, 5), 279);
@@ -41,6 +49,7 @@ public final class Promise05Test {
     }
 
     private static void done() {
+        Due.sentence("it is DONE: alarm 5");
         DosePump pump = Keys.running("36", "0.1");
         pump.ticks(9);
         Due.is("one is left", pump.channel(0, 3), 1);
@@ -64,6 +73,7 @@ public final class Promise05Test {
     }
 
     private static void doneInTheMiddle() {
+        Due.sentence("it makes no more in this tick");
         DosePump pump = Keys.pump();
         pump.more(0, 100000, 100, 30, 0, 1);
         Keys.press(pump, "B0E999.9E0.3ERP");
@@ -77,6 +87,7 @@ public final class Promise05Test {
     }
 
     private static void boluses() {
+        Due.sentence("as many of a bolus that is being made as its pace and what is left of it");
         DosePump pump = Keys.pump();
         pump.more(0, 100000, 25, 10, 0, 20);
         Keys.press(pump, "B0E36E10ERP");
@@ -89,6 +100,7 @@ public final class Promise05Test {
     }
 
     private static void hour() {
+        Due.sentence("have reached the hour's limit of its drug");
         DosePump pump = Keys.pump();
         pump.more(0, 30, 20, 5, 0, 20);
         Keys.press(pump, "B0E36E0ER");
@@ -116,6 +128,7 @@ public final class Promise05Test {
     }
 
     private static void hourAcrossPrograms() {
+        Due.sentence("the strokes of the latest 3600 ticks (of another program, too)");
         DosePump pump = Keys.pump();
         pump.more(0, 30, 0, 1, 0, 1);
         Keys.press(pump, "B0E36E0ER");
@@ -128,6 +141,7 @@ public final class Promise05Test {
     }
 
     private static void doneWithAir() {
+        Due.sentence("alarm 5 (behind alarm 0, if that comes with it)");
         DosePump pump = Keys.running("36", "0.1");
         pump.ticks(5);
         pump.air(0, true);
@@ -141,6 +155,7 @@ public final class Promise05Test {
     }
 
     private static void relays() {
+        Due.sentence("those that wait to RELAY");
         DosePump pump = Keys.pump();
         Keys.press(pump, "B0E36E0EYNB0E36E0EYNB0E36E0.1ER");
         Due.is("ten strokes", pump.ticks(10), 10);
@@ -161,6 +176,7 @@ public final class Promise05Test {
     }
 
     private static void relaysThatCannot() {
+        Due.sentence("if key 14 would do so");
         DosePump pump = Keys.pump();
         Keys.press(pump, "B0E36E0.1ERNB0E36E0EY");
         pump.door(1, true);
@@ -186,6 +202,7 @@ public final class Promise05Test {
     }
 
     private static void allChannels() {
+        Due.sentence("how many strokes were made by all channels");
         DosePump pump = Keys.pump();
         Keys.press(pump, "B0E36E0ERNB0E72E0ERNB0E108E0ER");
         Due.is("all of them", pump.ticks(10), 60);

@@ -10,6 +10,15 @@ public final class Promise06Test {
     }
 
     private static void answers() {
+        Due.sentence("The flow of a channel's line, 0 .. 1000: what it was");
+        for (int c = 0; c < 3; c++) {
+            DosePump edges = new DosePump();
+            int was = 200;
+            for (int flow : new int[] {0, 1, 999, 1000}) {
+                Due.is("flow " + flow + " of " + c, edges.flow(c, flow), was);
+                was = flow;
+            }
+        }
         DosePump pump = new DosePump();
         Due.is("200 at first", pump.flow(1, 0), 200);
         Due.is("what it was", pump.flow(1, 1000), 0);
@@ -23,6 +32,7 @@ public final class Promise06Test {
     }
 
     private static void pressure() {
+        Due.sentence("the pressure falls by the FLOW of the line");
         DosePump pump = Keys.running("36", "0");
         pump.flow(0, 4);
         pump.ticks(3);
@@ -41,6 +51,7 @@ public final class Promise06Test {
     }
 
     private static void edgeOfAHundred() {
+        Due.sentence("If it is 100 or more then");
         for (int flow = 2; flow <= 3; flow++) {
             DosePump pump = Keys.running("36", "0");
             pump.flow(0, 0);
@@ -62,6 +73,7 @@ public final class Promise06Test {
     }
 
     private static void inARow() {
+        Due.sentence("in three ticks in a row");
         DosePump pump = Keys.running("36", "0");
         pump.flow(0, 0);
         pump.ticks(18);
@@ -76,6 +88,7 @@ public final class Promise06Test {
     }
 
     private static void anew() {
+        Due.sentence("and the three ticks begin anew");
         DosePump pump = Keys.running("999.9", "0");
         pump.flow(0, 0);
         pump.ticks(3);

@@ -10,6 +10,12 @@ public final class Promise07Test {
     }
 
     private static void answers() {
+        Due.sentence("Whether there is air at a channel's sensor: what was");
+        DosePump each = new DosePump();
+        for (int c = 0; c < 3; c++) {
+            Due.is("none at first", each.air(c, true), false);
+            Due.is("what was", each.air(c, false), true);
+        }
         DosePump pump = new DosePump();
         Due.is("none at first", pump.air(2, true), false);
         Due.is("what was", pump.air(2, true), true);
@@ -21,6 +27,7 @@ public final class Promise07Test {
     }
 
     private static void bubble() {
+        Due.sentence("the BUBBLE grows by 1, otherwise it is 0 then");
         DosePump pump = Keys.running("108", "0");
         pump.air(0, true);
         pump.ticks(1);
@@ -61,6 +68,7 @@ public final class Promise07Test {
     }
 
     private static void manyStrokes() {
+        Due.sentence("60 strokes with air or more");
         DosePump pump = Keys.running("36", "0");
         Due.is("fourteen times", fourInFive(pump, 14), 70);
         pump.air(0, true);
@@ -74,6 +82,7 @@ public final class Promise07Test {
     }
 
     private static void window() {
+        Due.sentence("in the latest 900 ticks");
         DosePump pump = Keys.running("36", "0");
         pump.air(0, true);
         pump.ticks(4);
@@ -87,6 +96,7 @@ public final class Promise07Test {
     }
 
     private static void oldStrokesDoNotCount() {
+        Due.sentence("60 strokes with air or more in the latest 900 ticks");
         DosePump pump = Keys.running("36", "0");
         pump.air(0, true);
         pump.ticks(4);

@@ -1,6 +1,30 @@
 /** door */
 public final class Promise08Test {
     public static void main(String[] args) {
+        eachChannel();
+        oneThatRuns();
+        Due.end();
+    }
+
+    private static void eachChannel() {
+        Due.sentence("A channel's door is opened, or closed: whether it was open");
+        DosePump pump = new DosePump();
+        for (int c : new int[] {Integer.MIN_VALUE, -1, 3, Integer.MAX_VALUE}) {
+            Due.index("channel " + c, () -> pump.door(c, true));
+        }
+        for (int c = 0; c < 3; c++) {
+            Due.is("closed at first", pump.door(c, false), false);
+            Due.is("still closed", pump.door(c, true), false);
+            Due.is("open", pump.door(c, true), true);
+        }
+        for (int c = 0; c < 3; c++) {
+            Due.is("still open", pump.door(c, false), true);
+            Due.is("closed", pump.door(c, false), false);
+        }
+    }
+
+    private static void oneThatRuns() {
+        Due.sentence("its door is opened while it RUNS");
         DosePump pump = Keys.pump();
         pump.more(0, 100000, 50, 1, 0, 20);
         Due.index("channel 3", () -> pump.door(3, true));
@@ -28,6 +52,5 @@ public final class Promise08Test {
         Due.same("no ACK, no RUN", Keys.answers(pump, "AR"), "-1 -1");
         pump.door(0, false);
         Due.same("RUN behind ACK alone", Keys.answers(pump, "RAR"), "-1 8 7");
-        Due.end();
     }
 }

@@ -10,6 +10,7 @@ public final class Promise09Test {
     }
 
     private static void answers() {
+        Due.sentence("Mains are there, or not: whether they were");
         DosePump pump = new DosePump();
         Due.is("they were", pump.mains(false), true);
         Due.is("they were not", pump.mains(false), false);
@@ -18,6 +19,7 @@ public final class Promise09Test {
     }
 
     private static void charge() {
+        Due.sentence("its CHARGE grows by 4 up to 36000; without it falls");
         DosePump pump = Keys.running("72", "0");
         pump.ticks(10);
         Due.is("full with mains", pump.about(1), 36000);
@@ -32,6 +34,7 @@ public final class Promise09Test {
     }
 
     private static void low() {
+        Due.sentence("alarm 6 of channel 0 when the charge is below 3600 without mains");
         DosePump pump = new DosePump();
         pump.mains(false);
         Keys.ticks(pump, 32400);
@@ -63,6 +66,7 @@ public final class Promise09Test {
     }
 
     private static void empty() {
+        Due.sentence("alarm 3 of each channel that RUNS when it is 0");
         DosePump pump = Keys.pump();
         Keys.press(pump, "NB0E36E0ENB0E36E0E");
         pump.mains(false);
@@ -98,6 +102,7 @@ public final class Promise09Test {
     }
 
     private static void emptyOfChannel0() {
+        Due.sentence("alarm 3 of each channel that RUNS when it is 0 (channel 0)");
         DosePump pump = Keys.pump();
         Keys.press(pump, "B0E0.1E0E");
         pump.mains(false);

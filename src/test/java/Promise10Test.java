@@ -1,8 +1,13 @@
 /** about */
 public final class Promise10Test {
     public static void main(String[] args) {
+        Due.sentence("what = 0 .. 3; log entries in all (4). IndexOutOfBoundsException");
         DosePump pump = Keys.pump();
+        Due.index("about(min)", () -> pump.about(Integer.MIN_VALUE));
         Due.index("about(-1)", () -> pump.about(-1));
+        Due.is("about(0)", pump.about(0), 0);
+        Due.is("about(4)", pump.about(4), 0);
+        Due.sentence("Time, charge, the chosen channel, whether there is a sound; log entries in all");
         Due.index("about(5)", () -> pump.about(5));
         Due.index("about(max)", () -> pump.about(Integer.MAX_VALUE));
         pump.mains(false);

@@ -1,13 +1,19 @@
 /** channel */
 public final class Promise11Test {
     public static void main(String[] args) {
+        withoutProgram();
+        Due.sentence("IndexOutOfBoundsException: there is no such channel, what");
         DosePump pump = Keys.pump();
+        Due.is("the first", pump.channel(0, 0), 0);
+        Due.is("the last", pump.channel(2, 14), 0);
         for (int c : new int[] {-1, 3, Integer.MIN_VALUE, Integer.MAX_VALUE}) {
             Due.index("channel " + c, () -> pump.channel(c, 0));
         }
         for (int what : new int[] {-1, 15, Integer.MIN_VALUE, Integer.MAX_VALUE}) {
             Due.index("what " + what, () -> pump.channel(0, what));
         }
+        Due.index("neither", () -> pump.channel(3, 15));
+        Due.sentence("Of a channel: 0 its phase, 1 its alarms as bits ..");
         pump.more(0, 100000, 40, 3, 0, 5);
         pump.flow(2, 10);
         Keys.press(pump, "NNB0E54E5ERP");
@@ -39,7 +45,25 @@ public final class Promise11Test {
         Due.end();
     }
 
+    private static void withoutProgram() {
+        Due.sentence("2 the rate (0 without a program), 3 strokes that are LEFT (-1: without end, or no program), "
+            + "13 the drug of its program (-1)");
+        String[] keys = {"", "B", "0E", "36E", "0.1E"};
+        DosePump pump = Keys.pump();
+        for (int i = 0; i < keys.length; i++) {
+            Keys.press(pump, keys[i]);
+            boolean has = i == keys.length - 1;
+            Due.is("rate behind " + keys[i], pump.channel(0, 2), has ? 360 : 0);
+            Due.is("left behind " + keys[i], pump.channel(0, 3), has ? 10 : -1);
+            Due.is("drug behind " + keys[i], pump.channel(0, 13), has ? 0 : -1);
+        }
+        Keys.press(pump, "B0E36E0E");
+        Due.is("without end", pump.channel(0, 3), -1);
+        Due.is("of another channel", pump.channel(1, 13), -1);
+    }
+
     private static void hours() {
+        Due.sentence("7 strokes of the latest 3600 ticks, 14 strokes in all");
         DosePump pump = Keys.running("36", "0");
         for (int hour = 1; hour <= 4; hour++) {
             Keys.ticks(pump, 3600);

@@ -1,9 +1,15 @@
 /** entry */
 public final class Promise12Test {
     public static void main(String[] args) {
+        withoutEntry();
+        Due.sentence("IndexOutOfBoundsException: there is no such what");
         DosePump pump = Keys.pump();
-        Due.index("entry(-1)", () -> pump.entry(-1));
-        Due.index("entry(3)", () -> pump.entry(3));
+        for (int what : new int[] {Integer.MIN_VALUE, -1, 3, Integer.MAX_VALUE}) {
+            Due.index("entry(" + what + ")", () -> pump.entry(what));
+        }
+        Due.is("entry(0)", pump.entry(0), 0);
+        Due.is("entry(2)", pump.entry(2), 0);
+        Due.sentence("Of the chosen channel's entry: 0 its number, 1 how many figures and points it has, 2 ticks");
         number(pump, "B", 0, 0);
         number(pump, "1", 1, 1);
         number(pump, "E", 0, 0);
@@ -44,6 +50,20 @@ public final class Promise12Test {
         Due.is("a new entry", pump.entry(2), 0);
         number(pump, "0E36", 360, 2);
         Due.end();
+    }
+
+    private static void withoutEntry() {
+        Due.sentence("0 its number (0 without one), 2 ticks since the latest key that counts (0 without an entry)");
+        for (int phase = 0; phase <= 8; phase++) {
+            boolean has = phase >= 1 && phase <= 5;
+            DosePump pump = Keys.inPhase(phase);
+            pump.ticks(7);
+            Due.is("number in " + phase, pump.entry(0), 0);
+            Due.is("length in " + phase, pump.entry(1), 0);
+            Due.is("ticks in " + phase, pump.entry(2), has ? 7 : 0);
+            Keys.press(pump, "N");
+            Due.is("ticks of another", pump.entry(2), 0);
+        }
     }
 
     private static void number(DosePump pump, String keys, int number, int length) {

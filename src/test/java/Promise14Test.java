@@ -1,12 +1,14 @@
 /** log */
 public final class Promise14Test {
     public static void main(String[] args) {
+        whats();
         kinds();
         latest();
         Due.end();
     }
 
     private static void kinds() {
+        Due.sentence("THE LOG: the KINDS of its entries");
         DosePump pump = Keys.pump();
         pump.more(1, 100000, 8, 4, 10, 1);
         pump.ticks(3);
@@ -48,7 +50,22 @@ public final class Promise14Test {
         Due.same("entry " + i, Keys.logged(pump, i), due);
     }
 
+    private static void whats() {
+        Due.sentence("Of entry i of the log: 0 time, 1 kind, 2 channel, 3 number");
+        DosePump pump = Keys.pump();
+        pump.ticks(4);
+        Keys.press(pump, "NB1EC");
+        int[] due = {4, 9, 1, 2};
+        for (int what = 0; what < due.length; what++) {
+            Due.is("what " + what, pump.log(0, what), due[what]);
+        }
+        for (int what : new int[] {Integer.MIN_VALUE, -1, 4, Integer.MAX_VALUE}) {
+            Due.index("what " + what, () -> pump.log(0, what));
+        }
+    }
+
     private static void latest() {
+        Due.sentence("IndexOutOfBoundsException (also when it is not among the latest 64)");
         DosePump pump = new DosePump();
         for (int i = 0; i < 64; i++) {
             pump.ticks(1);
@@ -60,14 +77,14 @@ public final class Promise14Test {
         Due.index("entry 0 of 65", () -> pump.log(0, 0));
         entry(pump, 1, "2 9 0 1");
         entry(pump, 64, "65 9 0 1");
-        for (int i = 65; i < 200; i++) {
+        for (int i = 65; i < 130; i++) {
             pump.ticks(1);
             Keys.press(pump, "BS");
         }
-        Due.index("entry 135 of 200", () -> pump.log(135, 0));
-        for (int i = 136; i < 200; i++) {
-            entry(pump, i, (i + 1) + " 9 0 1");
+        Due.index("entry 65 of 130", () -> pump.log(65, 0));
+        for (int i = 66; i < 130; i++) {
+            Due.is("time of entry " + i, pump.log(i, 0), i + 1);
         }
-        Due.index("entry 200 of 200", () -> pump.log(200, 0));
+        Due.index("entry 130 of 130", () -> pump.log(130, 0));
     }
 }

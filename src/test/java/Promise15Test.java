@@ -1,6 +1,7 @@
 /** chain */
 public final class Promise15Test {
     public static void main(String[] args) {
+        Due.sentence("THE CHAIN");
         DosePump pump = Keys.pump();
         Due.is("at first", pump.chain(), 1);
         Keys.press(pump, "BS");
