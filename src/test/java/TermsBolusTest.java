@@ -8,6 +8,7 @@ public final class TermsBolusTest {
         lockoutOfNone();
         many();
         hourUpToNow();
+        manyInOneTick();
         overPrograms();
         refusedOnes();
         paceAndLeft();
@@ -136,6 +137,20 @@ public final class TermsBolusTest {
         Due.is("the first one is 3600 ticks old", two.channel(0, 12), 1);
         two.ticks(1);
         Due.is("the second one, too", two.channel(0, 12), 0);
+    }
+
+    private static void manyInOneTick() {
+        Due.sentence("fewer than the drug lets in were begun in the 3600 ticks up to now (all in one tick)");
+        DosePump pump = slow(1, 1, 0, 20);
+        for (int i = 1; i <= 20; i++) {
+            Due.is("number " + i, Keys.press(pump, "PSR"), 7);
+            Due.is("begun", pump.channel(0, 12), i);
+        }
+        Due.is("the twenty-first", Keys.press(pump, "P"), -1);
+        Keys.ticks(pump, 3599);
+        Due.is("3599 ticks later", pump.channel(0, 12), 20);
+        pump.ticks(1);
+        Due.is("3600 ticks later", pump.channel(0, 12), 0);
     }
 
     private static void overPrograms() {
